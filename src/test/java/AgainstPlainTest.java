@@ -1,3 +1,4 @@
+import java.util.ArrayList;
 import java.util.Arrays;
 import java.util.List;
 import java.util.Random;
@@ -26,7 +27,7 @@ public final class AgainstPlainTest {
     private void run(boolean large) {
         for (int i = 0; i < 4; i++) {
             readGround(large);
-            for (int k = 0; k < 10 && calls < 300; k++) {
+            for (int k = 0; k < 10 && calls < 500; k++) {
                 part();
             }
         }
@@ -114,7 +115,7 @@ public final class AgainstPlainTest {
 
     private void readGround(boolean large) {
         String text = groundText(large);
-        if (dice.nextInt(4) == 0) {
+        if (dice.nextInt(5) == 0) {
             text = spoilt(text);
         }
         int at = 0;
@@ -176,7 +177,7 @@ public final class AgainstPlainTest {
             case 5: foretellMore(); break;
             case 6: images(); break;
             case 7: case 8: askAll(); break;
-            case 9: call("lift", man()); break;
+            case 9: call("lift", man()); layRectangle(); break;
             case 10: stepsAndMen(); break;
             default: strayLaying(); break;
         }
@@ -184,9 +185,12 @@ public final class AgainstPlainTest {
 
     private void rows() {
         call("row", row(), near(2), dice.nextInt(8) == 0 ? 40 + upTo(1) : near(9));
+        call("row", row(), upTo(1), 12);
         call("set", row(), near(9), dice.nextInt());
         call("set", row(), near(9), dice.nextInt(400) - 200);
-        call("copy", row(), near(5), row(), near(5), near(5));
+        for (int i = 0; i < 3; i++) {
+            call("copy", row(), near(5), row(), near(5), near(5));
+        }
         if (dice.nextInt(4) == 0) {
             call("drop", row());
         }
@@ -196,7 +200,9 @@ public final class AgainstPlainTest {
                 call("feed", 0x2020202020202020L, 8);
             }
         }
-        call("feed", dice.nextLong(), dice.nextInt(10) == 0 ? near(8) : 0);
+        call("feed", dice.nextLong(), near(8));
+        // Read at once, so that what stands on the tape does not spoil the next text.
+        call("ground");
     }
 
     private void fill(int row, List<Integer> items) {
@@ -226,6 +232,27 @@ public final class AgainstPlainTest {
         call("count", 5);
     }
 
+    /** A rectangle by the peg, whatever lies there. */
+    private void layRectangle() {
+        int first = upTo(3);
+        int second = first + 1 + 2 * upTo(1) & 3;
+        int[] sides = {first, second, first ^ 2, second ^ 2};
+        int[] lengths = {1 + upTo(2), 1 + upTo(2)};
+        List<Integer> steps = new ArrayList<>();
+        for (int side = 0; side < 4; side++) {
+            for (int i = 0; i < lengths[side % 2]; i++) {
+                steps.add(sides[side]);
+            }
+        }
+        int row = row() & 7;
+        fill(row, steps);
+        int count = Math.max(1, plain.call("count", 4));
+        for (int man = 0; man < count; man++) {
+            call("judge", man, row, 0, steps.size());
+        }
+        call("lay", man(), row, 0, steps.size());
+    }
+
     private void strayLaying() {
         int row = row() & 7;
         int n = dice.nextInt(10);
@@ -248,11 +275,13 @@ public final class AgainstPlainTest {
         }
         call("wet", man(), near(100));
         call("shares", man());
+        call("tied", 1 + upTo(7));
     }
 
     private void foretellMore() {
         call("tied", near(15));
         call("least", man(), man(), near(1));
+        call("least", upTo(1), 1 + upTo(1), upTo(1));
         int n = upTo(2);
         int m = upTo(2);
         int row = row() & 7;
@@ -265,6 +294,7 @@ public final class AgainstPlainTest {
     }
 
     private void images() {
+        call(dice.nextBoolean() ? "image" : "restore", near(1));
         call(dice.nextBoolean() ? "image" : "restore", near(1));
         call("count", 4);
         call("count", 5);

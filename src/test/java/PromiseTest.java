@@ -241,6 +241,9 @@ public final class PromiseTest {
         groundFault(" \n ", 3, 1);
         groundFault("row", 3, 1);
         groundFault("rows a;", 0, 1);
+        groundFault("bow a;", 0, 1);
+        groundFault("row a;ktone 0 0;", 6, 1);
+        groundFault("row a;ban 0 0 1;", 6, 1);
         groundFault("Row a;", 0, 1);
         groundFault("row ;", 4, 1);
         groundFault("row k;", 4, 1);
@@ -488,6 +491,7 @@ public final class PromiseTest {
         due("15 k max", x.most(0, 12, MAX), NONE);
         due("15 lay", Due.lay(x, 0, "EESWWN"), 1);
         noRing(x, 0, 12);
+        ring(x, 4, 6, 14, "SWSWWNENEE");
         Due.read(x, "row www;row www;row www;man 0 0 12;");
         ring(x, 0, 0, 0, "EEESSSWWWNNN");
         Due.read(x, "row bbbbbbb;row bbbbbbb;row bbbbbbb;row bbbbbbb;man 3 2 12;");
@@ -529,6 +533,18 @@ public final class PromiseTest {
         due("17 0 of three", x.shares(0), 1);
         due("17 1 of three", x.shares(1), 3);
         due("17 2 of three", x.shares(2), 4);
+        Due.read(x, "row aaahd;man 0 0 4;man 5 0 4;man 2 1 4;");
+        due("17 man 0 nothing", x.shares(0), 0);
+        due("17 then man 1 what he has alone", x.shares(1), 3);
+        due("17 and man 2 the rest", x.shares(2), 7);
+        Due.read(x, "row faaaf;man 0 0 4;man 5 0 4;man 5 1 4;");
+        due("17 all together have less than each alone", x.tied(7), 10);
+        due("17 each leaves", x.shares(0), NONE);
+        Due.read(x, "row adeda;man 0 0 4;man 5 0 4;man 5 1 4;");
+        due("17 all have less than the pairs", x.tied(7) * 100 + x.tied(5) * 10 + x.tied(6), 1077);
+        due("17 a pair leaves", x.shares(1), NONE);
+        Due.read(x, "row adecb;man 0 0 4;man 5 0 4;man 5 1 4;");
+        due("17 likewise", x.shares(2), NONE);
         Due.read(x, "row aj;man 0 0 4;man 2 0 4;man 2 1 4;");
         due("17 nobody stays", x.shares(0), NONE);
         due("17 nor he", x.shares(2), NONE);
@@ -567,6 +583,10 @@ public final class PromiseTest {
         Due.read(x, "row jjjj;row aaaa;row aaaa;man 0 0 12;man 4 0 12;");
         due("18 eight steps of a, eight of b", x.least(0, 1, 0), 9);
         due("18 and no more of a", x.least(0, 1, 1), 27);
+        String land = "row aaaaaaa;";
+        Due.read(x, land.repeat(3) + "row jaaaaaa;" + land.repeat(2) + "man 3 3 12;man 3 3 12;");
+        due("18 one of all rings from the middle", x.least(0, 1, 0), 0);
+        due("18 that one", x.least(0, 1, 1), 9);
     }
 
     /** Promise 19. */
@@ -650,7 +670,8 @@ public final class PromiseTest {
         due("22 k -1", x.restore(-1), BAD);
         Due.lay(x, 0, "EESWWN");
         x.image(1);
-        int ahead = x.most(28, 10, -2);
+        due("22 foretold, along the ring", x.most(4, 6, -2), 14);
+        due("22 foretold at the peg", x.most(0, 12, -2), NONE);
         due("22 the other was not", x.restore(0), STATE);
         Due.read(x, "row j;man 0 0 4;");
         due("22 another ground", x.most(0, 4, -2), 9);
@@ -662,9 +683,13 @@ public final class PromiseTest {
         due("22 stones", x.count(3), 1);
         due("22 ring", x.whose(1), 0);
         due("22 rope along it", x.takes(0, 1), 0);
-        due("22 the same is foretold", x.most(28, 10, -2), ahead);
+        due("22 the same is foretold", x.most(4, 6, -2), 14);
         x.lift(0);
+        due("22 another thing is foretold", x.most(4, 6, -2), 5);
+        due("22 at the peg, too", x.most(0, 8, -2), 12);
         due("22 as often as one likes", x.restore(1), 1);
+        due("22 the first thing again", x.most(4, 6, -2), 14);
+        due("22 at the peg again", x.most(0, 8, -2), NONE);
         due("22 the ring again", x.whose(1), 0);
     }
 
