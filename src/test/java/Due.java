@@ -2,15 +2,21 @@
 final class Due {
     private static int wrong = 0;
     private static int asked = 0;
+    private static String sentence = "";
 
     private Due() {
+    }
+
+    /** What follows tests this sentence of a section (T0 to T4, P1 to P28); SentencesTest looks it up. */
+    static void says(String section, String quote) {
+        sentence = section + " [" + quote + "] ";
     }
 
     static void due(String call, long got, long want) {
         asked++;
         if (got != want) {
             wrong++;
-            System.out.println(call + " answered " + got + ", due is " + want);
+            System.out.println(sentence + call + " answered " + got + ", due is " + want);
         }
     }
 
@@ -18,7 +24,7 @@ final class Due {
         asked++;
         if (!good) {
             wrong++;
-            System.out.println("does not hold: " + what);
+            System.out.println(sentence + "does not hold: " + what);
         }
     }
 
@@ -33,16 +39,28 @@ final class Due {
         }
     }
 
-    /** Feeds a text byte by byte. */
+    /** Feeds a text, eight bytes at a time: an object has 512 calls, no more. */
     static void tape(RopeRound x, String text) {
-        for (int i = 0; i < text.length(); i++) {
-            x.feed(text.charAt(i), 1);
+        for (int i = 0; i < text.length(); i += 8) {
+            String part = text.substring(i, Math.min(i + 8, text.length()));
+            long w = 0;
+            for (int j = 0; j < part.length(); j++) {
+                w = w << 8 | part.charAt(j) & 255;
+            }
+            x.feed(w, part.length());
         }
     }
 
     static int read(RopeRound x, String text) {
         tape(x, text);
         return x.ground();
+    }
+
+    /** A new object on the ground that a text tells, which must be a good one. */
+    static RopeRound on(String text) {
+        RopeRound x = new RopeRound();
+        holds("a ground is read: " + text, read(x, text) > 0);
+        return x;
     }
 
     /** A row of bytes with these items. */
