@@ -7,7 +7,7 @@ final class Due {
     private Due() {
     }
 
-    /** What follows tests this sentence of a section (T0 to T4, P1 to P28); SentencesTest looks it up. */
+    /** What follows tests this sentence of a section (W0, T0 to T4, P1 to P28); SentencesTest looks it up. */
     static void says(String section, String quote) {
         sentence = section + " [" + quote + "] ";
     }

@@ -288,6 +288,14 @@ public final class TextEdgeTest {
         due("the same again", Due.read(x, "row jaw;row aaa;stone 3 2;man 0 0 12;man 3 0 12;"), 2);
         due("nothing is laid", x.count(5), 0);
         due("he lays anew", Due.lay(x, 0, "ESWN"), 9);
+        x = Due.on("row jw;row wj;man 0 0 8;");
+        due("foretold of the first", x.most(0, 8, -2), 18);
+        Due.read(x, "row aa;row aa;man 0 0 8;");
+        due("no worth is left of it", x.most(0, 8, -2), 0);
+        due("no water is left of it", x.kind(1), 1);
+        due("none that saves rope", x.takes(0, 2) + x.takes(1, 1), 2);
+        Due.read(x, "row jj;row jj;man 0 0 8;");
+        due("foretold of the third", x.most(0, 8, -2), 36);
     }
 
     private static void firstFault() {
@@ -299,6 +307,16 @@ public final class TextEdgeTest {
         bad("   ?", 3, 1);
         bad("row ab ?;", 7, 1);
         bad("row kkkkkkkkk;", 4, 1);
+        bad("bow a;man 0 0 1;", 0, 1);
+        bad("rot a;man 0 0 1;", 0, 1);
+        bad("ro a;man 0 0 1;", 0, 1);
+        bad("rows a;man 0 0 1;", 0, 1);
+        bad("row a;atone 1 1;man 0 0 1;", 6, 1);
+        bad("row a;stony 1 1;man 0 0 1;", 6, 1);
+        bad("row a;men 0 0 1;", 6, 1);
+        bad("row a;ban 0 0 1;", 6, 1);
+        bad("row a;may 0 0 1;", 6, 1);
+        bad("row a;mans 0 0 1;", 6, 1);
         // A number of four figures is not as told either, and a row that cannot stand there is one too many, too.
         bad("row a;stone 9999 0;", 12, 1);
         bad("row a;".repeat(6) + "stone 0 0;row a;", 46, 1);
