@@ -1213,9 +1213,11 @@ public final class RopeRound {
         int sizeAsked() {
             switch (kind) {
                 case TAKEN:
-                    return sizeOfTaken();
+                    note(14);
+                    return -sizeOfRinged();
                 case RICH:
-                    return sizeOfRich();
+                    note(13);
+                    return sizeOfLand() + 1000;
                 case RINGED:
                     return sizeOfRinged();
                 case LAND:
@@ -1239,16 +1241,6 @@ public final class RopeRound {
         private int sizeOfRinged() {
             note(12);
             return 2 * sizeOfLand();
-        }
-
-        private int sizeOfRich() {
-            note(13);
-            return sizeOfLand() + 1000;
-        }
-
-        private int sizeOfTaken() {
-            note(14);
-            return -sizeOfRinged();
         }
 
         int markAsked() {
