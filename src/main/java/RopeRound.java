@@ -595,39 +595,30 @@ public final class RopeRound {
             while (start < length && (bytes[start] == ' ' || bytes[start] == '\n')) {
                 start++;
             }
-            end = start;
             if (start >= length) {
                 sort = END;
-            } else if (isLetter(start)) {
-                takeName();
-            } else if (isFigure(start)) {
-                takeNumber();
-            } else {
-                sort = bytes[start] == ';' ? SIGN : NOTHING;
-                end = start + 1;
+                end = start;
+                return;
             }
-        }
-
-        private void takeName() {
-            while (end < length && isLetter(end)) {
+            sort = sortOf(bytes[start]);
+            end = start + 1;
+            boolean runs = sort == NAME || sort == NUMBER;
+            while (runs && end < length && sortOf(bytes[end]) == sort) {
                 end++;
             }
-            sort = NAME;
-        }
-
-        private void takeNumber() {
-            while (end < length && isFigure(end)) {
-                end++;
+            if (sort == NUMBER && end - start > MOST_FIGURES) {
+                sort = NOTHING;
             }
-            sort = end - start <= MOST_FIGURES ? NUMBER : NOTHING;
         }
 
-        private boolean isLetter(int at) {
-            return bytes[at] >= 'a' && bytes[at] <= 'z';
-        }
-
-        private boolean isFigure(int at) {
-            return bytes[at] >= '0' && bytes[at] <= '9';
+        private static int sortOf(byte sign) {
+            if (sign >= 'a' && sign <= 'z') {
+                return NAME;
+            }
+            if (sign >= '0' && sign <= '9') {
+                return NUMBER;
+            }
+            return sign == ';' ? SIGN : NOTHING;
         }
 
         boolean isWord(String word) {
@@ -1253,7 +1244,10 @@ public final class RopeRound {
                     note(23);
                     return -markLent();
                 case WATER:
-                    return markOfWater();
+                    note(21);
+                    int lent = markLent();
+                    // The size of water is always the lent one: asked by its kind, the two asks would call one another.
+                    return lent - sizeLent() - 500;
                 default:
                     return markLent();
             }
@@ -1262,13 +1256,6 @@ public final class RopeRound {
         private int markLent() {
             note(20);
             return cell;
-        }
-
-        /** The size of water is always the lent one: to ask by the kind would make the two asks call one another. */
-        private int markOfWater() {
-            note(21);
-            int lent = markLent();
-            return lent - sizeLent() - 500;
         }
     }
 }
